@@ -209,19 +209,13 @@ public final class PartBook {
 
     public int choose(int part, int rule, int quantity, long day)
             throws IndexOutOfBoundsException, IllegalArgumentException {
-        Part one = partOf(part);
-        checkIndex(rule, ruleCount);
-        checkNumber(quantity, 1, MOST_QUANTITY);
-        Part chosen = cheapest(one, rule, quantity, day);
+        Part chosen = chosenFor(part, rule, quantity, day);
         return chosen == null ? NONE : chosen.number;
     }
 
     public int buy(int part, int rule, int quantity, long day)
             throws IndexOutOfBoundsException, IllegalArgumentException {
-        Part one = partOf(part);
-        checkIndex(rule, ruleCount);
-        checkNumber(quantity, 1, MOST_QUANTITY);
-        Part chosen = cheapest(one, rule, quantity, day);
+        Part chosen = chosenFor(part, rule, quantity, day);
         if (chosen == null) {
             return NONE;
         }
@@ -362,6 +356,14 @@ public final class PartBook {
         return state == SOLD || state == LAST_ONES ? leastCost(one, quantity) : NONE;
     }
 
+    /** The part that choose() tells, or null. */
+    private Part chosenFor(int part, int rule, int quantity, long day) {
+        Part one = partOf(part);
+        checkIndex(rule, ruleCount);
+        checkNumber(quantity, 1, MOST_QUANTITY);
+        return cheapest(one, rule, quantity, day);
+    }
+
     private Part cheapest(Part one, int rule, int quantity, long day) {
         long least = offer(one, quantity, day);
         Part chosen = least == NONE ? null : one;
@@ -431,7 +433,10 @@ public final class PartBook {
         }
     }
 
-    /** What holds from a beginning on, until the next one: prices by pieces, states by days. */
+    /**
+     * What holds from a beginning on, until the next one: prices by pieces (cents of a currency),
+     * states by days (without an amount). Rows are sorted by their beginnings.
+     */
     private static final class Steps {
         private static final int MOST = 8;
 

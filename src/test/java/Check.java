@@ -28,6 +28,15 @@ final class Check {
         same(what, got ? 1 : 0, 0);
     }
 
+    /** The count that a call found, and what found() tells then. */
+    static void finds(String what, PartBook book, int count, int... due) {
+        same(what + " count", count, due.length);
+        for (int k = 0; k < due.length; k++) {
+            same(what + " found(" + k + ")", book.found(k), due[k]);
+        }
+        same(what + " found behind", book.found(due.length), -1);
+    }
+
     static void refuses(String what, String due, Call call) {
         checks++;
         String got = "nothing";

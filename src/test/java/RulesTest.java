@@ -23,14 +23,6 @@ final class RulesTest {
         return book;
     }
 
-    private static void finds(String what, PartBook book, int count, int... due) {
-        Check.same(what + " count", count, due.length);
-        for (int k = 0; k < due.length; k++) {
-            Check.same(what + " found(" + k + ")", book.found(k), due[k]);
-        }
-        Check.same(what + " found behind", book.found(due.length), -1);
-    }
-
     private static void ruleNumbers() {
         PartBook book = new PartBook();
         for (int i = 0; i < 10; i++) {
@@ -73,12 +65,12 @@ final class RulesTest {
         book.maker(2, 10);
         book.maker(1, 20);
         book.maker(0, 10);
-        finds("by places", book, book.alternates(1, 0), 0, 2, 3);
-        finds("by places", book, book.alternates(2, 0), 0, 1, 3);
+        Check.finds("by places", book, book.alternates(1, 0), 0, 2, 3);
+        Check.finds("by places", book, book.alternates(2, 0), 0, 1, 3);
         book.maker(2, 30);
-        finds("other places", book, book.alternates(1, 0), 2, 3, 0);
+        Check.finds("other places", book, book.alternates(1, 0), 2, 3, 0);
         PartBook alone = parts(0);
-        finds("a part alone", alone, alone.alternates(0, 0));
+        Check.finds("a part alone", alone, alone.alternates(0, 0));
     }
 
     private static void kindsOfAsking() {
@@ -88,14 +80,14 @@ final class RulesTest {
         book.value(2, 2, 1, 3, 0);
         book.value(3, 2, 2, 3, 0);
         book.ask(0, 2, 0);
-        finds("equal", book, book.alternates(0, 0), 1);
+        Check.finds("equal", book, book.alternates(0, 0), 1);
         book.ask(0, 2, 1);
-        finds("at least", book, book.alternates(0, 0), 1, 3);
-        finds("at least the greatest", book, book.alternates(3, 0));
+        Check.finds("at least", book, book.alternates(0, 0), 1, 3);
+        Check.finds("at least the greatest", book, book.alternates(3, 0));
         book.ask(0, 2, 2);
-        finds("at most", book, book.alternates(0, 0), 1, 2);
+        Check.finds("at most", book, book.alternates(0, 0), 1, 2);
         book.ask(0, 2, -1);
-        finds("not asked", book, book.alternates(0, 0), 1, 2, 3);
+        Check.finds("not asked", book, book.alternates(0, 0), 1, 2, 3);
     }
 
     private static void valuesMissing() {
@@ -103,12 +95,12 @@ final class RulesTest {
         book.value(0, 0, 0, 1, 0);
         book.value(1, 0, 0, 1, 0);
         book.ask(0, 0, 2);
-        finds("another one has none", book, book.alternates(0, 0), 1);
-        finds("the part itself has none", book, book.alternates(2, 0));
+        Check.finds("another one has none", book, book.alternates(0, 0), 1);
+        Check.finds("the part itself has none", book, book.alternates(2, 0));
         book.ask(0, 0, 0);
-        finds("none is not zero", book, book.alternates(0, 0), 1);
+        Check.finds("none is not zero", book, book.alternates(0, 0), 1);
         book.ask(0, 11, 1);
-        finds("none has it", book, book.alternates(0, 0));
+        Check.finds("none has it", book, book.alternates(0, 0));
     }
 
     private static void severalNames() {
@@ -121,8 +113,8 @@ final class RulesTest {
         book.rule();
         book.ask(1, 0, 1);
         book.ask(1, 11, 2);
-        finds("at least and at most", book, book.alternates(0, 1), 2, 3);
-        finds("the other rule asks for nothing", book, book.alternates(0, 0), 1, 2, 3);
+        Check.finds("at least and at most", book, book.alternates(0, 1), 2, 3);
+        Check.finds("the other rule asks for nothing", book, book.alternates(0, 0), 1, 2, 3);
     }
 
     private static void exactComparison() {
@@ -132,12 +124,12 @@ final class RulesTest {
         book.value(2, 0, 1, 999_999, -9);
         book.value(3, 0, 1, 1_000_000, -9);
         book.ask(0, 0, 1);
-        finds("999999999/999999", book, book.alternates(0, 0), 1);
-        finds("999999998/999998", book, book.alternates(1, 0));
-        finds("1/999999", book, book.alternates(2, 0), 0, 1);
+        Check.finds("999999999/999999", book, book.alternates(0, 0), 1);
+        Check.finds("999999998/999998", book, book.alternates(1, 0));
+        Check.finds("1/999999", book, book.alternates(2, 0), 0, 1);
         book.ask(0, 0, 2);
-        finds("1/999999 at most", book, book.alternates(2, 0), 3);
-        finds("1/1000000 at most", book, book.alternates(3, 0));
+        Check.finds("1/999999 at most", book, book.alternates(2, 0), 3);
+        Check.finds("1/1000000 at most", book, book.alternates(3, 0));
     }
 
     private static void foundStays() {
@@ -152,12 +144,12 @@ final class RulesTest {
         Check.refuses("no part", Check.INDEX, () -> book.alternates(9, 0));
         Check.refuses("no name", Check.INDEX, () -> book.search(12, 0, 1, 1, 1));
         Check.refuses("no border", Check.ARGUMENT, () -> book.search(0, 0, 0, 1, 1));
-        finds("as it was then", book, 2, 1, 2);
+        Check.finds("as it was then", book, 2, 1, 2);
         Check.same("found(-1)", book.found(-1), -1);
         Check.same("found(MIN)", book.found(Integer.MIN_VALUE), -1);
         Check.same("found(MAX)", book.found(Integer.MAX_VALUE), -1);
         Check.same("found(40)", book.found(40), -1);
-        finds("found anew", book, book.alternates(0, 0));
+        Check.finds("found anew", book, book.alternates(0, 0));
     }
 
     private static void wrongAlternates() {

@@ -12,14 +12,6 @@ final class SearchTest {
         Check.end();
     }
 
-    private static void finds(String what, PartBook book, int count, int... due) {
-        Check.same(what + " count", count, due.length);
-        for (int k = 0; k < due.length; k++) {
-            Check.same(what + " found(" + k + ")", book.found(k), due[k]);
-        }
-        Check.same(what + " found behind", book.found(due.length), -1);
-    }
-
     private static PartBook book(long[]... values) {
         PartBook book = new PartBook();
         for (int part = 0; part < values.length; part++) {
@@ -33,23 +25,23 @@ final class SearchTest {
 
     private static void borders() {
         PartBook book = book(new long[] {1, 3, 0}, new long[] {1, 2, 0}, new long[] {2, 3, 0}, null);
-        finds("borders belong", book, book.search(4, 1, 3, 2, 3), 0, 1, 2);
-        finds("borders in other terms", book, book.search(4, 2, 6, 4, 6), 0, 1, 2);
-        finds("a little above the lower one", book, book.search(4, 333_334, 1_000_000, 2, 3), 1, 2);
-        finds("a little below the upper one", book, book.search(4, 1, 3, 666_666, 1_000_000), 0, 1);
-        finds("one point", book, book.search(4, 1, 2, 5, 10), 1);
-        finds("turned round", book, book.search(4, 2, 3, 1, 3));
-        finds("another name", book, book.search(5, 0, 1, TOP, 1));
+        Check.finds("borders belong", book, book.search(4, 1, 3, 2, 3), 0, 1, 2);
+        Check.finds("borders in other terms", book, book.search(4, 2, 6, 4, 6), 0, 1, 2);
+        Check.finds("a little above the lower one", book, book.search(4, 333_334, 1_000_000, 2, 3), 1, 2);
+        Check.finds("a little below the upper one", book, book.search(4, 1, 3, 666_666, 1_000_000), 0, 1);
+        Check.finds("one point", book, book.search(4, 1, 2, 5, 10), 1);
+        Check.finds("turned round", book, book.search(4, 2, 3, 1, 3));
+        Check.finds("another name", book, book.search(5, 0, 1, TOP, 1));
     }
 
     private static void order() {
         PartBook book = book(new long[] {2, 1, 0}, new long[] {1, 1, 0}, new long[] {1, 10, 1},
                 new long[] {20, 10, 0}, new long[] {0, 1, 0}, new long[] {1000, 1, -3});
-        finds("by values, then numbers", book, book.search(4, 0, 1, 2, 1), 4, 1, 2, 5, 0, 3);
+        Check.finds("by values, then numbers", book, book.search(4, 0, 1, 2, 1), 4, 1, 2, 5, 0, 3);
         book.maker(3, 49);
         book.maker(5, 0);
         book.maker(4, 99);
-        finds("by values, then places", book, book.search(4, 0, 1, 2, 1), 4, 5, 1, 2, 3, 0);
+        Check.finds("by values, then places", book, book.search(4, 0, 1, 2, 1), 4, 5, 1, 2, 3, 0);
     }
 
     private static void manyParts() {
@@ -68,9 +60,9 @@ final class SearchTest {
     private static void extremes() {
         PartBook book = book(new long[] {TOP, 1, 9}, new long[] {1, BOTTOM, -9}, new long[] {TOP, 1, 0},
                 new long[] {1, BOTTOM, 0}, new long[] {0, 1, 0});
-        finds("all but the greatest", book, book.search(4, 0, 1, TOP, 1), 4, 1, 3, 2);
-        finds("from the least border", book, book.search(4, 1, BOTTOM, TOP, 1), 3, 2);
-        finds("nothing alone", book, book.search(4, 0, BOTTOM, 0, 1), 4);
+        Check.finds("all but the greatest", book, book.search(4, 0, 1, TOP, 1), 4, 1, 3, 2);
+        Check.finds("from the least border", book, book.search(4, 1, BOTTOM, TOP, 1), 3, 2);
+        Check.finds("nothing alone", book, book.search(4, 0, BOTTOM, 0, 1), 4);
     }
 
     private static void wrongSearches() {
