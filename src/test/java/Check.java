@@ -3,8 +3,17 @@ final class Check {
     static final String INDEX = "IndexOutOfBoundsException";
     static final String ARGUMENT = "IllegalArgumentException";
 
+    private static final long MOST_MILLIS = 120_000;
+
+    private static volatile String place = "";
     private static int checks = 0;
     private static int wrong = 0;
+
+    static {
+        Thread watch = new Thread(Check::endLate);
+        watch.setDaemon(true);
+        watch.start();
+    }
 
     interface Call {
         void run();
@@ -13,10 +22,37 @@ final class Check {
     private Check() {
     }
 
+    /** A call that does not end fails its test, too. */
+    private static void endLate() {
+        try {
+            Thread.sleep(MOST_MILLIS);
+        } catch (InterruptedException e) {
+            return;
+        }
+        System.out.println(place + "does not end");
+        Runtime.getRuntime().halt(1);
+    }
+
+    /** What is told in front of each fault from here on. */
+    static void at(String name) {
+        place = name + ": ";
+    }
+
+    static int wrong() {
+        return wrong;
+    }
+
     static void same(String what, long got, long due) {
         checks++;
         if (got != due) {
             fault(what + " answered " + got + ", due is " + due);
+        }
+    }
+
+    static void same(String what, String got, String due) {
+        checks++;
+        if (!got.equals(due)) {
+            fault(what + " is " + got + ", due is " + due);
         }
     }
 
@@ -37,22 +73,20 @@ final class Check {
         same(what + " found behind", book.found(due.length), -1);
     }
 
+    /** By the very name: what the machine throws is of a class below the one that is due. */
     static void refuses(String what, String due, Call call) {
-        checks++;
         String got = "nothing";
         try {
             call.run();
         } catch (RuntimeException e) {
             got = e.getClass().getSimpleName();
         }
-        if (!got.equals(due)) {
-            fault(what + " threw " + got + ", due is " + due);
-        }
+        same("what " + what + " threw", got, due);
     }
 
     static void fault(String text) {
         wrong++;
-        System.out.println(text);
+        System.out.println(place + text);
     }
 
     static void end() {
