@@ -1,42 +1,19 @@
+import java.io.IOException;
 import java.lang.reflect.Constructor;
 import java.lang.reflect.Field;
 import java.lang.reflect.Method;
 import java.lang.reflect.Modifier;
-import java.util.Arrays;
 import java.util.TreeSet;
 
 /** The public face of the document, and what of LANGUAGE.md can be seen in the compiled class. */
 final class FaceTest {
-    private static final String INDEX = " throws IndexOutOfBoundsException";
-    private static final String ARGUMENT = " throws IllegalArgumentException";
-    private static final String BOTH = INDEX + ", IllegalArgumentException";
+    /** So that a face that could not be read does not pass. */
+    private static final int CALLS = 20;
 
-    private static final String[] FACE = {
-        "int part(int)" + ARGUMENT,
-        "boolean maker(int, int)" + ARGUMENT,
-        "boolean value(int, int, long, long, int)" + BOTH,
-        "long told(int, int, int)" + INDEX,
-        "int rule()",
-        "boolean ask(int, int, int)" + BOTH,
-        "int alternates(int, int)" + INDEX,
-        "int search(int, long, long, long, long)" + BOTH,
-        "int found(int)",
-        "boolean price(int, int, long, int)" + BOTH,
-        "boolean rate(int, long)" + BOTH,
-        "boolean pack(int, int)" + BOTH,
-        "boolean stock(int, int)" + BOTH,
-        "boolean life(int, long, int)" + BOTH,
-        "int state(int, long)" + INDEX,
-        "long cost(int, int)" + BOTH,
-        "int best(int, int)" + BOTH,
-        "int choose(int, int, int, long)" + BOTH,
-        "int buy(int, int, int, long)" + BOTH,
-        "int derate(int, int, long, long, int)" + BOTH,
-    };
-
-    public static void main(String[] args) {
+    public static void main(String[] args) throws IOException {
         theClass();
         theMethods();
+        theConstants();
         theFields();
         theClassesInside();
         Check.end();
@@ -52,8 +29,12 @@ final class FaceTest {
         Check.is("no package", PartBook.class.getPackageName().isEmpty());
     }
 
-    private static void theMethods() {
-        TreeSet<String> due = new TreeSet<>(Arrays.asList(FACE));
+    private static void theMethods() throws IOException {
+        TreeSet<String> due = new TreeSet<>();
+        for (Face.Call call : Face.calls()) {
+            due.add(call.told());
+        }
+        Check.same("calls of the document", due.size(), CALLS);
         TreeSet<String> names = new TreeSet<>();
         for (Method method : PartBook.class.getDeclaredMethods()) {
             if (Modifier.isPublic(method.getModifiers())) {
@@ -89,18 +70,29 @@ final class FaceTest {
         return text.toString();
     }
 
+    private static void theConstants() throws IOException {
+        TreeSet<String> told = new TreeSet<>();
+        for (Field field : PartBook.class.getFields()) {
+            told.add(field.getType().getSimpleName() + " " + field.getName() + " = " + valueOf(field));
+        }
+        Check.same("the constants", told.toString(), new TreeSet<>(Face.constants()).toString());
+    }
+
+    private static String valueOf(Field field) {
+        try {
+            return String.valueOf(field.get(null));
+        } catch (IllegalAccessException e) {
+            return "not to be read";
+        }
+    }
+
     private static void theFields() {
         for (Field field : PartBook.class.getDeclaredFields()) {
             int modifiers = field.getModifiers();
-            if (field.getName().equals("NONE")) {
-                Check.is("NONE is a public int constant", Modifier.isPublic(modifiers)
-                        && Modifier.isStatic(modifiers) && Modifier.isFinal(modifiers)
-                        && field.getType() == int.class);
-            } else {
-                Check.is("private: " + field.getName(), Modifier.isPrivate(modifiers));
-                Check.is("static is final: " + field.getName(),
-                        !Modifier.isStatic(modifiers) || Modifier.isFinal(modifiers));
-            }
+            boolean constant = Modifier.isStatic(modifiers) && Modifier.isFinal(modifiers);
+            Check.is("private, or a constant: " + field.getName(), Modifier.isPrivate(modifiers)
+                    || constant && Modifier.isPublic(modifiers));
+            Check.is("static is final: " + field.getName(), constant || !Modifier.isStatic(modifiers));
         }
     }
 
